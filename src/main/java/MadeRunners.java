@@ -324,7 +324,7 @@ public final class MadeRunners {
             ops[i] = op;
             firsts[i] = a;
             seconds[i] = b;
-            // A JUMP's goal is looked up by number only when bytes are written: it may be told later than the JUMP.
+            // No length depends on what is told later, not even a JUMP's: a start that is known stays.
             starts[i + 1] = starts[i] + bytesFor(op, b);
             instructionCount = i + 1;
         }

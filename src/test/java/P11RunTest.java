@@ -9,6 +9,7 @@ final class P11RunTest {
         limits(due);
         alteredBytes(due);
         deep(due);
+        pileIsEmptyAgain(due);
         wrong(due);
         due.end();
     }
@@ -151,6 +152,19 @@ final class P11RunTest {
         };
         handed(due, "2000 steps, one on the pile and a DIV by 0 ahead", new long[] {999, 1}, onPile, 2000, 2, 0, 1, 0, 0);
         handed(due, "1998 steps, one on the pile, then the DIV", new long[] {998, 1}, onPile, 1998, 1, 0, 1, 0, 0);
+    }
+
+    /** A fault leaves parts on the pile; the runs behind it have all the room again. */
+    private static void pileIsEmptyAgain(Due due) {
+        MadeRunners x = new MadeRunners(1);
+        int fault = Samples.waiting(x, 1, 0, 1, 1, 1, 2, 1, 3, 7, 2, 0, 2, 0, 2, 0, 10);
+        int four = Samples.waiting(x, 16, 1, 16, 2, 16, 3, 16, 4, 2, 0, 2, 1, 2, 2, 2, 3, 10);
+        x.border();
+        for (int i = 0; i < 3; i++) {
+            due.is("a fault", x.run(fault, 8, 9) * 10 + x.ended(0), 1);
+            due.is("four STOREs", x.run(four, 8, 9) * 10 + x.ended(0), 40);
+            Samples.registersAre(due, "behind a fault", x, 4, 3, 2, 1);
+        }
     }
 
     private static void wrong(Due due) {
