@@ -29,18 +29,19 @@ final class FaceTest {
         Due due = new Due();
         Class<?> face = MadeRunners.class;
         due.is("NONE", MadeRunners.NONE, -1);
-        due.holds("final", Modifier.isFinal(face.getModifiers()));
+        due.is("final", Modifier.isFinal(face.getModifiers()), true);
         methods(due, face);
         for (Constructor<?> each : face.getDeclaredConstructors()) {
-            due.holds("constructor " + each, each.toString().equals("public MadeRunners(int)"));
+            due.is("constructor " + each, each.toString().equals("public MadeRunners(int)"), true);
         }
         for (Field each : face.getDeclaredFields()) {
             boolean isNone = each.toString().equals("public static final int MadeRunners.NONE");
-            due.holds("field " + each, isNone || Modifier.isPrivate(each.getModifiers()));
-            due.holds("static field " + each, !Modifier.isStatic(each.getModifiers()) || Modifier.isFinal(each.getModifiers()));
+            due.is("field " + each, isNone || Modifier.isPrivate(each.getModifiers()), true);
+            due.is("static field " + each, !Modifier.isStatic(each.getModifiers()) || Modifier.isFinal(each.getModifiers()), true);
         }
         for (Class<?> each : face.getDeclaredClasses()) {
-            due.holds("class " + each, Modifier.isStatic(each.getModifiers()) && !Modifier.isPublic(each.getModifiers()));
+            boolean isSeen = Modifier.isPublic(each.getModifiers()) || Modifier.isProtected(each.getModifiers());
+            due.is("class " + each + " is seen", isSeen, false);
         }
         due.end();
     }
@@ -52,21 +53,14 @@ final class FaceTest {
             if (!Modifier.isPrivate(each.getModifiers())) {
                 seen.add(written(each));
                 publicNames.add(each.getName());
-                due.holds("public " + each, Modifier.isPublic(each.getModifiers()));
+                due.is("public " + each, Modifier.isPublic(each.getModifiers()), true);
             }
         }
         Set<String> want = new TreeSet<>(Arrays.asList(METHODS));
-        due.holds("methods are " + want + ", seen " + seen, seen.equals(want));
-        privateNames(due, face, publicNames);
-        for (Class<?> each : face.getDeclaredClasses()) {
-            privateNames(due, each, publicNames);
-        }
-    }
-
-    private static void privateNames(Due due, Class<?> where, Set<String> publicNames) {
-        for (Method each : where.getDeclaredMethods()) {
+        due.is("methods are " + want + ", seen " + seen, seen.equals(want), true);
+        for (Method each : face.getDeclaredMethods()) {
             boolean isPrivate = Modifier.isPrivate(each.getModifiers());
-            due.fails("name of " + each, isPrivate && publicNames.contains(each.getName()));
+            due.is("name of " + each, isPrivate && publicNames.contains(each.getName()), false);
         }
     }
 

@@ -46,6 +46,10 @@ final class Model {
         limit = 1 + BigInteger.valueOf(generations).subtract(BigInteger.ONE).mod(BigInteger.valueOf(8)).intValue();
     }
 
+    int blockCount() {
+        return blocks.size();
+    }
+
     /** The bytes of a block; none, when it is rows. */
     List<Integer> bytesOf(int block) {
         List<Integer> bytes = has(block) ? blocks.get(block).bytes : null;

@@ -7,7 +7,6 @@ import java.util.TreeMap;
 /** Long runs of calls, drawn with fixed seeds, answered by MadeRunners and by Model. */
 final class ModelTest {
     private static final int OBJECTS = 1500;
-    private static final int CALLS = 512;
     private static final int[] NUMBERS = {
         0, 1, -1, 2, 3, 127, 128, -128, -129, 255, 256, 300, -300, Integer.MAX_VALUE, Integer.MIN_VALUE,
     };
@@ -34,25 +33,24 @@ final class ModelTest {
             "end 0 by 0", "end 1 by 0", "end 2 by 0", "end 0 by 1", "end 1 by 1", "end 2 by 1",
         };
         for (String each : wanted) {
-            due.holds("come across 20 times: " + each, seen.getOrDefault(each, 0) >= 20);
+            due.is("come across 20 times: " + each, seen.getOrDefault(each, 0) >= 20, true);
         }
     }
 
     private void one(int seed) {
         Random random = new Random(seed);
         int generations = seed < 40 ? seed - 20 : random.nextInt();
-        MadeRunners x = new MadeRunners(generations);
+        Counted x = new Counted(generations);
         Model model = new Model(generations);
         // Some objects stay with few blocks, so that these get long; others take all that there can be.
         int few = 1 + random.nextInt(30);
-        for (int i = 0; i < CALLS; i++) {
-            String call = call(random, i, x.count(0), few);
-            long[] given = given(random, call, x.count(0), model);
+        for (int i = 0; x.callsLeft() > 0; i++) {
+            String call = call(random, i, model.blockCount(), few);
+            long[] given = given(random, call, model.blockCount(), model);
             String want = model.answer(call, given);
             String got = answer(x, call, given);
-            due.is("seed " + seed + ", call " + i + ", " + call + Arrays.toString(given) + ": " + got + ", due is " + want,
-                    got.equals(want) ? 1 : 0, 1);
-            note(x, call, got);
+            due.reads("seed " + seed + ", call " + i + ", " + call + Arrays.toString(given), got, want);
+            note(model, call, got);
         }
     }
 
@@ -160,7 +158,7 @@ final class ModelTest {
         }
     }
 
-    private static String answer(MadeRunners x, String call, long[] given) {
+    private static String answer(Counted x, String call, long[] given) {
         int[] n = new int[4];
         for (int i = 0; i < given.length; i++) {
             n[i] = (int) given[i];
@@ -201,12 +199,13 @@ final class ModelTest {
         }
     }
 
-    private void note(MadeRunners x, String call, String got) {
+    private void note(Model model, String call, String got) {
         String kind = got;
         if (got.startsWith("throws.")) {
             kind = got;
         } else if (call.equals("run")) {
-            seen.merge("end " + x.ended(0) + " by " + x.ended(1), 1, Integer::sum);
+            String ending = model.answer("ended", new long[] {0});
+            seen.merge("end " + ending + " by " + model.answer("ended", new long[] {1}), 1, Integer::sum);
         } else if (call.equals("check")) {
             kind = got.equals("0") ? "right" : "wrong";
         } else if (call.equals("border") || call.equals("next")) {

@@ -1,20 +1,43 @@
 /** Promise 2: block. */
 final class P02BlockTest {
     public static void main(String[] args) {
-        Due due = new Due();
-        MadeRunners x = new MadeRunners(1);
+        Passage.section("Promise 2: block")
+                .sentence("A block more: its number.", P02BlockTest::itsNumber)
+                .sentence("UnsupportedOperationException, when there are twenty-four.", P02BlockTest::twentyFour)
+                .end();
+    }
+
+    private static void itsNumber(Due due) {
+        Counted x = Samples.fresh();
         for (int i = 0; i < 24; i++) {
             due.is("block()", x.block(), i);
             due.is("count(0)", x.count(0), i + 1);
-            due.is("what(" + i + ", 0)", x.what(i, 0), 0);
-            due.is("what(" + i + ", 1)", x.what(i, 1), MadeRunners.NONE);
-            due.is("what(" + i + ", 2)", x.what(i, 2), 0);
-            due.is("what(" + i + ", 3)", x.what(i, 3), 0);
+            Samples.blockIs(due, "a new block", x, i, 0, -1, 0, 0);
+            due.is("instruction of block " + i, x.instruction(i, Rows.SET, 0, 1), 1);
         }
-        due.refuses("the 25th block()", UnsupportedOperationException.class, x::block);
-        due.is("count(0) behind it", x.count(0), 24);
-        due.is("the 24th takes instructions", x.instruction(23, Samples.SET, 0, 1), 1);
-        due.is("the others have none of it", x.what(22, 2), 0);
-        due.end();
+        // Blocks that others are made and dropped before have their numbers just the same.
+        Counted busy = Samples.busy();
+        due.is("block() of a busy object", busy.block(), Samples.BUSY_BLOCKS);
+        due.is("what(0, 2)", busy.what(0, 2), 4);
+    }
+
+    private static void twentyFour(Due due) {
+        due.unsupported("the 25th block()", Samples::full, x -> x.block());
+        Counted x = Samples.fresh();
+        Samples.blocks(x, 23);
+        due.is("the 24th block()", x.block(), 23);
+        due.unsupported("the 25th block() again and again", P02BlockTest::refusedTwice, y -> y.block());
+    }
+
+    private static Counted refusedTwice() {
+        Counted x = Samples.full();
+        for (int i = 0; i < 2; i++) {
+            try {
+                x.block();
+            } catch (UnsupportedOperationException e) {
+                continue;
+            }
+        }
+        return x;
     }
 }

@@ -1,97 +1,79 @@
 /** Promise 4: make. */
 final class P04MakeTest {
     public static void main(String[] args) {
-        Due due = new Due();
-        bytesOfEach(due);
-        pushes(due);
-        goals(due);
-        longest(due);
-        again(due);
-        due.end();
+        Passage.section("Promise 4: make")
+                .sentence("Makes a block's bytes", P04MakeTest::makesBytes)
+                .sentence("(it waits then):", P04MakeTest::itWaits)
+                .sentence("how many;", P04MakeTest::howMany)
+                .sentence("NONE, when it can not be made", P04MakeTest::canNotBeMade)
+                .sentence("(it is rows then).", P04MakeTest::itIsRows)
+                .end();
     }
 
-    private static void bytesOfEach(Due due) {
-        MadeRunners x = new MadeRunners(1);
-        x.block();
-        due.is("make of none", x.make(0), 1);
-        Samples.bytesAre(due, x, 0, 10);
-        for (int op = Samples.ADD; op <= Samples.LESS; op++) {
-            int block = Samples.block(x, Samples.row(op, 2, 3));
-            due.is("make of op " + op, x.make(block), 8);
-            Samples.bytesAre(due, x, block, 1, 2, 1, 3, op + 3, 2, 2, 10);
+    private static void makesBytes(Due due) {
+        Counted x = Samples.withMade(Rows.countdown(0));
+        int[] want = Codes.of("PUSH1 255, STORE 3, LOAD 0, LOAD 3, ADD, STORE 0, LOAD 0, BRANCH 0 4, END");
+        Samples.bytesAre(due, x, 0, want);
+        x.alter(0, 0, 99);
+        x.alter(0, 16, 0);
+        x.make(0);
+        Samples.bytesAre(due, x, 0, want);
+        x.instruction(0, Rows.MOVE, 1, 2);
+        x.make(0);
+        Samples.bytesAre(due, x, 0,
+                Codes.of("PUSH1 255, STORE 3, LOAD 0, LOAD 3, ADD, STORE 0, LOAD 0, BRANCH 0 4, LOAD 2, STORE 1, END"));
+    }
+
+    private static void itWaits(Due due) {
+        Counted x = Samples.busy();
+        for (int block = 0; block < Samples.BUSY_BLOCKS; block++) {
+            due.is("make of block " + block, x.make(block), 24);
+            Samples.blockIs(due, "made", x, block, 1, 1, 4, 24);
         }
-        int move = Samples.block(x, Samples.row(Samples.MOVE, 2, 3));
-        due.is("make of MOVE", x.make(move), 5);
-        Samples.bytesAre(due, x, move, 1, 3, 2, 2, 10);
-        int jump = Samples.block(x, Samples.row(Samples.JUMP, 3, 0));
-        due.is("make of JUMP", x.make(jump), 6);
-        Samples.bytesAre(due, x, jump, 1, 3, 9, 0, 0, 10);
-        due.noBlock("make(9)", () -> x.make(9));
-        due.noBlock("make(-1)", () -> x.make(-1));
-    }
-
-    private static void pushes(Due due) {
-        int[][] pushed = {
-            {0, 16, 0}, {127, 16, 127}, {-128, 16, 128}, {-1, 16, 255},
-            {128, 3, 0, 0, 0, 128}, {-129, 3, 255, 255, 255, 127}, {0x01020384, 3, 1, 2, 3, 132},
-            {Integer.MIN_VALUE, 3, 128, 0, 0, 0}, {Integer.MAX_VALUE, 3, 127, 255, 255, 255},
-        };
-        MadeRunners x = new MadeRunners(1);
-        for (int[] each : pushed) {
-            int block = Samples.block(x, Samples.row(Samples.SET, 1, each[0]));
-            int[] want = new int[each.length + 2];
-            System.arraycopy(each, 1, want, 0, each.length - 1);
-            want[each.length - 1] = 2;
-            want[each.length] = 1;
-            want[each.length + 1] = 10;
-            due.is("make of SET " + each[0], x.make(block), want.length);
-            Samples.bytesAre(due, x, block, want);
-        }
-    }
-
-    private static void goals(Due due) {
-        MadeRunners x = new MadeRunners(1);
-        int block = Samples.block(x, Samples.row(Samples.JUMP, 0, 1), Samples.row(Samples.JUMP, 0, 2),
-                Samples.row(Samples.JUMP, 0, 60), Samples.row(Samples.JUMP, 0, 3));
-        x.make(block);
-        Samples.bytesAre(due, x, block, 1, 0, 9, 0, 5, 1, 0, 9, 0, 10, 1, 0, 9, 0, 20, 1, 0, 9, 0, 15, 10);
-        int later = Samples.block(x, Samples.row(Samples.JUMP, 0, 2));
-        x.make(later);
-        due.is("a goal beyond the last one is END", x.byteAt(later, 4), 5);
-        x.instruction(later, Samples.SET, 0, 1);
-        x.instruction(later, Samples.SET, 0, 2);
-        x.make(later);
-        due.is("the goal is there now", x.byteAt(later, 4), 9);
-    }
-
-    private static void longest(Due due) {
-        MadeRunners x = new MadeRunners(2);
-        int longest = Samples.longest(x);
-        due.is("make of 300 bytes", x.make(longest), 300);
-        due.is("it waits", x.what(longest, 0), 1);
-        due.is("END", x.byteAt(longest, 299), 10);
-        due.is("the goal's high byte", x.byteAt(longest, 297), 294 >> 8);
-        due.is("the goal's low byte", x.byteAt(longest, 298), 294 & 255);
-        int tooLong = Samples.tooLong(x);
-        due.is("make of 301 bytes", x.make(tooLong), MadeRunners.NONE);
-        due.is("it is rows", x.what(tooLong, 0), 0);
-        due.is("of no generation", x.what(tooLong, 1), MadeRunners.NONE);
-        due.is("without bytes", x.what(tooLong, 3), 0);
-        x.instruction(longest, Samples.MOVE, 0, 0);
-        due.is("make of 304 bytes", x.make(longest), MadeRunners.NONE);
-    }
-
-    private static void again(Due due) {
-        MadeRunners x = new MadeRunners(3);
-        int block = Samples.countdown(x);
-        due.is("make", x.make(block), 17);
-        x.alter(block, 0, 99);
-        due.is("make anew", x.make(block), 17);
-        due.is("what was altered is as made", x.byteAt(block, 0), 16);
-        x.border();
+        due.is("count(4)", x.count(4), 3);
         x.next();
-        due.is("handed, generation 0", x.what(block, 0) * 10 + x.what(block, 1), 20);
-        due.is("make of a handed one", x.make(block), 17);
-        due.is("waits, generation 1", x.what(block, 0) * 10 + x.what(block, 1), 11);
+        x.make(Samples.WAITS);
+        Samples.blockIs(due, "made anew in the next generation", x, Samples.WAITS, 1, 2, 4, 24);
+        Samples.blockIs(due, "the others are as they were", x, Samples.IS_ROWS, 1, 1, 4, 24);
+    }
+
+    private static void howMany(Due due) {
+        int[] sizes = {4, 7, 7, 7, 7, 7, 5, 4};
+        for (int op = Rows.SET; op <= Rows.MOVE; op++) {
+            for (int times = 0; times <= 40; times += 8) {
+                Counted x = Samples.fresh();
+                int block = Samples.block(x, Rows.repeated(times, Rows.row(op, 0, 1)));
+                due.is("make of " + times + " of op " + op, x.make(block), times * sizes[op] + 1);
+                due.is("what(0, 3)", x.what(block, 3), times * sizes[op] + 1);
+            }
+        }
+        Counted x = Samples.fresh();
+        due.is("make of 300 bytes", x.make(Samples.block(x, Rows.longest())), 300);
+    }
+
+    private static void canNotBeMade(Due due) {
+        Counted x = Samples.fresh();
+        due.is("make of 301 bytes", x.make(Samples.block(x, Rows.tooLong())), MadeRunners.NONE);
+        Counted y = Samples.fresh();
+        due.is("make of 421 bytes", y.make(Samples.block(y, Rows.repeated(60, Rows.add(0, 1)))), MadeRunners.NONE);
+        due.is("make again", y.make(0), MadeRunners.NONE);
+    }
+
+    private static void itIsRows(Due due) {
+        Counted x = Samples.fresh();
+        int block = Samples.block(x, Rows.longest());
+        int other = Samples.countdown(x);
+        x.make(other);
+        x.make(block);
+        x.border();
+        x.instruction(block, Rows.MOVE, 0, 0);
+        due.is("make of 304 bytes", x.make(block), MadeRunners.NONE);
+        Samples.blockIs(due, "304 bytes", x, block, 0, -1, 44, 0);
+        Samples.blockIs(due, "the other one", x, other, 2, 0, 3, 17);
+        due.is("run as it is", x.run(block, 1, 1), 44);
+        due.is("ended(1)", x.ended(1), 0);
+        due.is("border()", x.border(), 0);
+        due.is("next(): one alone became rows", x.next(), 1);
+        due.wrongState("byteAt(0, 0) of 301 bytes", Samples::tooLong, y -> y.byteAt(0, 0));
     }
 }

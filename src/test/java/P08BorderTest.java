@@ -1,41 +1,42 @@
-/** Promise 8: border. */
+/** Promise 8: border. What it does to each kind of block stands in T6BordersTest. */
 final class P08BorderTest {
     public static void main(String[] args) {
-        Due due = new Due();
-        MadeRunners x = new MadeRunners(2);
-        due.is("border of none", x.border(), 0);
-        for (int i = 0; i < 5; i++) {
-            Samples.countdown(x);
+        Passage.section("Promise 8: border")
+                .sentence("A border: how many were handed over.", P08BorderTest::howMany)
+                .end();
+    }
+
+    private static void howMany(Due due) {
+        due.is("border() of no block", Samples.fresh().border(), 0);
+        for (int waiting = 0; waiting <= 24; waiting += 6) {
+            for (int wrong = 0; wrong <= waiting; wrong += 6) {
+                Counted x = Samples.fresh();
+                Samples.blocks(x, 24);
+                for (int i = 0; i < waiting; i++) {
+                    x.make(i);
+                }
+                for (int i = 0; i < wrong; i++) {
+                    x.alter(i, 0, 0);
+                }
+                String call = "border(), " + waiting + " wait, " + wrong + " of them are not right";
+                due.is(call, x.border(), waiting - wrong);
+                Samples.countsAre(due, call, x, 24, 0, 0, waiting - wrong, 0, wrong, 0, 0, 1);
+                due.is(call + ", another one behind it", x.border(), 0);
+            }
         }
-        due.is("border of rows", x.border(), 0);
-        for (int i = 0; i < 4; i++) {
-            x.make(i);
-        }
-        x.alter(1, 0, 99);
-        due.is("run before the border is by rows", x.run(0, 3, 0) * 10 + x.ended(1), 70);
-        due.is("border: three are right", x.border(), 3);
-        int[] states = {2, 0, 2, 2, 0};
-        for (int i = 0; i < states.length; i++) {
-            due.is("what(" + i + ", 0)", x.what(i, 0), states[i]);
-        }
-        due.is("rows again: no generation", x.what(1, 1), MadeRunners.NONE);
-        due.is("rows again: no bytes", x.what(1, 3), 0);
-        due.is("told at borders", x.count(5), 1);
-        due.is("run behind the border is by bytes", x.run(0, 3, 0) * 10 + x.ended(1), 71);
-        due.is("border with none that waits", x.border(), 0);
-        due.is("handed ones stay", x.count(3), 3);
-        x.next();
-        x.make(0);
-        due.is("made anew, it waits", x.what(0, 0), 1);
-        due.is("and is run by rows", x.run(0, 3, 0) * 10 + x.ended(1), 70);
-        due.is("border", x.border(), 1);
-        due.is("its generation stays", x.what(0, 1), 1);
-        x.make(1);
-        x.make(4);
-        x.alter(1, 0, 99);
-        x.alter(4, 0, 99);
-        due.is("border of wrong ones", x.border(), 0);
-        due.is("told at borders so far", x.count(5), 3);
-        due.end();
+        leavesTheRest(due);
+    }
+
+    /** Rows and handed ones stay what they are, and so does what the latest run left. */
+    private static void leavesTheRest(Due due) {
+        Counted x = Samples.busy();
+        due.is("border() of a busy object", x.border(), 1);
+        Samples.blockIs(due, "rows", x, Samples.IS_ROWS, 0, -1, 4, 0);
+        Samples.blockIs(due, "handed now", x, Samples.WAITS, 2, 1, 4, 24);
+        Samples.blockIs(due, "handed before", x, Samples.IS_HANDED, 2, 1, 4, 24);
+        Samples.countsAre(due, "a busy object", x, 3, 1, 0, 2, 0, 1, 1, 7, 2);
+        Samples.registersAre(due, "the latest run", x, 0, 0, 0, -1);
+        due.is("ended(0)", x.ended(0), 1);
+        due.is("ended(1)", x.ended(1), 1);
     }
 }

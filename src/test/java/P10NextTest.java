@@ -1,65 +1,85 @@
-/** Promise 10: next. */
+/** Promise 10: next. Which generation goes when stands in T6BordersTest. */
 final class P10NextTest {
     public static void main(String[] args) {
-        Due due = new Due();
-        for (int limit = 1; limit <= 8; limit++) {
-            oneEach(due, limit);
-        }
-        together(due);
-        madeAnew(due);
-        due.end();
+        Passage.section("Promise 10: next")
+                .sentence("A new generation:", P10NextTest::newGeneration)
+                .sentence("how many blocks became rows.", P10NextTest::howMany)
+                .end();
     }
 
-    /** A block made in each generation goes when its generation goes, and not before. */
-    private static void oneEach(Due due, int limit) {
-        MadeRunners x = new MadeRunners(limit);
-        for (int now = 0; now < 20; now++) {
-            due.is("block made in " + now, x.make(x.block()), 1);
-            if (now % 2 == 0) {
-                x.border();
-            }
-            boolean oneGoes = now + 1 >= limit;
-            due.is("next() behind " + now + ", G " + limit, x.next(), oneGoes ? 1 : 0);
-            int oldest = oneGoes ? now + 2 - limit : 0;
-            due.is("now", x.count(1), now + 1);
-            due.is("oldest of G " + limit, x.count(2), oldest);
-            for (int i = 0; i <= now; i++) {
-                due.is("generation of " + i + ", G " + limit, x.what(i, 1), i >= oldest ? i : MadeRunners.NONE);
-                due.fails("rows: " + i + ", G " + limit, (x.what(i, 0) == 0) != (i < oldest));
-                due.is("bytes of " + i + ", G " + limit, x.what(i, 3), i >= oldest ? 1 : 0);
-            }
+    private static void newGeneration(Due due) {
+        Counted x = new Counted(3);
+        for (int now = 1; now <= 100; now++) {
+            due.is("next()", x.next(), 0);
+            due.is("count(1)", x.count(1), now);
+            due.is("count(2)", x.count(2), now < 3 ? 0 : now - 2);
         }
+    }
+
+    private static void howMany(Due due) {
+        together(due);
+        madeAnew(due);
+        full(due);
+        leavesTheRest(due);
+        due.is("next() of no block", Samples.fresh().next(), 0);
     }
 
     private static void together(Due due) {
-        MadeRunners x = new MadeRunners(1);
-        for (int i = 0; i < 24; i++) {
-            x.block();
-        }
-        due.is("next() with rows alone", x.next(), 0);
+        Counted x = new Counted(1);
+        Samples.blocks(x, 24);
+        due.is("next() with 24 that are rows", x.next(), 0);
         for (int i = 0; i < 24; i++) {
             x.make(i);
             if (i == 10) {
                 x.border();
             }
         }
-        x.instruction(3, Samples.SET, 0, 0);
-        due.is("next(), handed and waiting ones", x.next(), 23);
-        due.is("none is handed", x.count(3), 0);
-        due.is("none waits", x.count(4), 0);
-        due.is("not right at borders: none", x.count(5), 0);
+        x.instruction(3, Rows.SET, 0, 0);
+        x.alter(20, 0, 0);
+        due.is("next(), 10 handed ones, 13 waiting ones and rows", x.next(), 23);
+        Samples.countsAre(due, "all are dropped", x, 24, 2, 2, 0, 0, 0, 0, 0, 1);
         due.is("next() again", x.next(), 0);
     }
 
+    /** Made anew, a block goes with its later generation alone. */
     private static void madeAnew(Due due) {
-        MadeRunners x = new MadeRunners(2);
-        int block = Samples.countdown(x);
-        x.make(block);
+        Counted x = new Counted(2);
+        Samples.countdown(x);
+        x.make(0);
         x.next();
-        x.make(block);
-        due.is("next(): it belongs to the later one", x.next(), 0);
-        due.is("next(): that one goes", x.next(), 1);
-        due.is("its instructions stay", x.what(block, 2), 3);
-        due.is("it runs as it is", x.run(block, 2, 0) * 10 + x.ended(1), 50);
+        x.make(0);
+        due.is("next(), the earlier generation goes", x.next(), 0);
+        due.is("next(), the later generation goes", x.next(), 1);
+        due.is("what(0, 2)", x.what(0, 2), 3);
+        due.is("run", x.run(0, 2, 0), 5);
+        due.is("ended(1)", x.ended(1), 0);
+    }
+
+    /** G generations with three blocks each are all that there can be with G 8. */
+    private static void full(Due due) {
+        Counted x = new Counted(8);
+        for (int now = 0; now < 8; now++) {
+            for (int i = 0; i < 3; i++) {
+                x.make(x.block());
+            }
+            due.is("next() in " + now, x.next(), now < 7 ? 0 : 3);
+        }
+        for (int now = 8; now < 15; now++) {
+            due.is("count(4) in " + now, x.count(4), 3 * (15 - now));
+            due.is("next() in " + now, x.next(), 3);
+        }
+        due.is("next(), none is left", x.next(), 0);
+    }
+
+    private static void leavesTheRest(Due due) {
+        Counted x = Samples.busy();
+        due.is("next() of a busy object", x.next(), 0);
+        Samples.blockIs(due, "waits still", x, Samples.WAITS, 1, 1, 4, 24);
+        due.is("the altered byte", x.byteAt(Samples.WAITS, 3), 2);
+        due.is("next() again", x.next(), 2);
+        Samples.countsAre(due, "a busy object", x, 3, 3, 2, 0, 0, 1, 1, 7, 2);
+        Samples.registersAre(due, "the latest run", x, 0, 0, 0, -1);
+        due.is("ended(0)", x.ended(0), 1);
+        due.is("ended(1)", x.ended(1), 1);
     }
 }

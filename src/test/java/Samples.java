@@ -1,22 +1,95 @@
-/** Blocks that several tests use. */
+import java.util.Arrays;
+import java.util.Map;
+import java.util.function.Consumer;
+import java.util.function.Supplier;
+
+/** Objects and blocks that several tests use. */
 final class Samples {
-    static final int SET = 0;
-    static final int ADD = 1;
-    static final int SUB = 2;
-    static final int MUL = 3;
-    static final int DIV = 4;
-    static final int LESS = 5;
-    static final int JUMP = 6;
-    static final int MOVE = 7;
+    /** The blocks of a busy object. */
+    static final int IS_ROWS = 0;
+    static final int WAITS = 1;
+    static final int IS_HANDED = 2;
+    static final int BUSY_BLOCKS = 3;
 
     private Samples() {
     }
 
-    static int[] row(int op, int a, int b) {
-        return new int[] {op, a, b};
+    static Counted fresh() {
+        return new Counted(1);
     }
 
-    static int block(MadeRunners x, int[]... rows) {
+    /**
+     * G is 2, the generation is 1; a block that is rows since a border told its bytes, one that waits, with an
+     * altered byte that is right, and one that is handed; the latest run was by bytes and ended with a fault.
+     */
+    static Counted busy() {
+        Counted x = new Counted(2);
+        for (int i = 0; i < BUSY_BLOCKS; i++) {
+            block(x, Rows.countdown(0, Rows.div(2, 1)));
+        }
+        x.make(IS_ROWS);
+        x.alter(IS_ROWS, 0, 0);
+        x.next();
+        x.make(IS_HANDED);
+        x.border();
+        x.make(WAITS);
+        x.alter(WAITS, 3, 2);
+        x.run(IS_HANDED, 3, 0);
+        return x;
+    }
+
+    /** An object with one block of these rows, which waits, or is rows when it can not be made. */
+    static Counted withMade(int[]... rows) {
+        Counted x = fresh();
+        x.make(block(x, rows));
+        return x;
+    }
+
+    static Counted withHanded(int[]... rows) {
+        Counted x = withMade(rows);
+        x.border();
+        return x;
+    }
+
+    static Counted tooLong() {
+        return withMade(Rows.tooLong());
+    }
+
+    static Counted longest() {
+        return withMade(Rows.longest());
+    }
+
+    /** Twenty-four blocks; the first one and a few others wait. */
+    static Counted full() {
+        Counted x = fresh();
+        blocks(x, 24);
+        for (int i = 0; i < 24; i += 5) {
+            x.make(i);
+        }
+        return x;
+    }
+
+    /** Objects whose block 0 is rows, by each way in which it may have come to be that. */
+    static Map<String, Supplier<Counted>> rowsInAnyWay() {
+        return Map.of(
+                "a new one", () -> with(fresh(), x -> x.block()),
+                "one with instructions", () -> with(fresh(), x -> countdown(x)),
+                "one that a border told", Samples::busy,
+                "one of 301 bytes", Samples::tooLong,
+                "a dropped one that waited", () -> with(withMade(Rows.set(0, 1)), x -> x.next()),
+                "a dropped one that was handed", () -> with(withHanded(Rows.set(0, 1)), x -> x.next()),
+                "one that was told more while it waited",
+                () -> with(withMade(Rows.set(0, 1)), x -> x.instruction(0, Rows.SET, 0, 1)),
+                "one that was told more when it was handed",
+                () -> with(withHanded(Rows.set(0, 1)), x -> x.instruction(0, Rows.SET, 0, 1)));
+    }
+
+    private static Counted with(Counted x, Consumer<Counted> asked) {
+        asked.accept(x);
+        return x;
+    }
+
+    static int block(Counted x, int[]... rows) {
         int number = x.block();
         for (int[] row : rows) {
             x.instruction(number, row[0], row[1], row[2]);
@@ -24,71 +97,99 @@ final class Samples {
         return number;
     }
 
-    static void repeat(MadeRunners x, int block, int times, int[] row) {
-        for (int i = 0; i < times; i++) {
-            x.instruction(block, row[0], row[1], row[2]);
+    static int countdown(Counted x) {
+        return block(x, Rows.countdown(0));
+    }
+
+    static void blocks(Counted x, int howMany) {
+        for (int i = 0; i < howMany; i++) {
+            x.block();
         }
     }
 
-    /** Counts register 0 down to 0: 1 and two steps for each that it counts. */
-    static int countdown(MadeRunners x) {
-        return block(x, row(SET, 3, -1), row(ADD, 0, 3), row(JUMP, 0, 1));
-    }
-
-    /** A block of 301 bytes, which can not be made. */
-    static int tooLong(MadeRunners x) {
-        int number = x.block();
-        repeat(x, number, 40, row(ADD, 0, 1));
-        repeat(x, number, 5, row(MOVE, 0, 1));
-        return number;
-    }
-
-    /** A block of 300 bytes. */
-    static int longest(MadeRunners x) {
-        int number = x.block();
-        repeat(x, number, 42, row(ADD, 0, 1));
-        repeat(x, number, 1, row(JUMP, 2, 42));
-        return number;
-    }
-
-    /** Makes the bytes of a block anew, and lets others stand there, as far as they go. */
-    static void overwrite(MadeRunners x, int block, int... bytes) {
-        x.make(block);
+    /** A waiting block whose bytes are these and no others; what its rows do is of no use. */
+    static int waiting(Counted x, int... bytes) {
+        int number = block(x, rowsOf(bytes.length));
+        if (x.make(number) != bytes.length) {
+            throw new AssertionError("no rows have " + bytes.length + " bytes");
+        }
         for (int i = 0; i < bytes.length; i++) {
-            x.alter(block, i, bytes[i]);
+            x.alter(number, i, bytes[i]);
         }
+        return number;
     }
 
-    /** A waiting block whose bytes are these and no others; the rows behind them are of no use. */
-    static int waiting(MadeRunners x, int... bytes) {
-        int number = x.block();
-        int left = bytes.length - 1;
-        if (left == 7 || left == 11) {
-            x.instruction(number, ADD, 0, 0);
+    /** Rows whose made bytes are so many, if there are any. */
+    private static int[][] rowsOf(int bytes) {
+        int[][] rows = new int[60][];
+        int size = 0;
+        int left = bytes - 1;
+        while (left == 7 || left == 11 || left > 60) {
+            rows[size++] = Rows.add(0, 0);
             left -= 7;
         }
         while (left % 4 != 0 && left >= 5) {
-            x.instruction(number, JUMP, 0, 0);
+            rows[size++] = Rows.jump(0, 0);
             left -= 5;
         }
-        repeat(x, number, left / 4, row(MOVE, 0, 0));
-        if (x.make(number) != bytes.length) {
-            throw new IllegalStateException("no rows have " + bytes.length + " bytes");
+        for (; left >= 4; left -= 4) {
+            rows[size++] = Rows.move(0, 0);
         }
-        overwrite(x, number, bytes);
-        return number;
+        return Arrays.copyOf(rows, size);
     }
 
-    static void bytesAre(Due due, MadeRunners x, int block, int... want) {
-        due.is("what(" + block + ", 3)", x.what(block, 3), want.length);
-        for (int i = 0; i < want.length; i++) {
-            due.is("byteAt(" + block + ", " + i + ")", x.byteAt(block, i), want[i]);
+    static void bytesAre(Due due, Counted x, int block, int... want) {
+        int[] got = new int[x.what(block, 3)];
+        for (int i = 0; i < got.length; i++) {
+            got[i] = x.byteAt(block, i);
         }
+        due.reads("the bytes of block " + block, Arrays.toString(got), Arrays.toString(want));
     }
 
-    static void registersAre(Due due, String when, MadeRunners x, long... want) {
-        for (int r = 0; r < 4; r++) {
-            due.is(when + " register(" + r + ")", x.register(r), want[r]);
+    static void registersAre(Due due, String when, Counted x, long... want) {
+        due.reads(when + ", the registers", registersOf(x), Arrays.toString(want));
+    }
+
+    static void countsAre(Due due, String when, Counted x, int... want) {
+        int[] got = new int[want.length];
+        for (int what = 0; what < got.length; what++) {
+            got[what] = x.count(what);
         }
+        due.reads(when + ", count(0), count(1), ..", Arrays.toString(got), Arrays.toString(want));
+    }
+
+    static void blockIs(Due due, String when, Counted x, int block, int... want) {
+        due.reads(when + ", what(" + block + ", 0), what(" + block + ", 1), ..", whatsOf(x, block), Arrays.toString(want));
+    }
+
+    private static String whatsOf(Counted x, int block) {
+        int[] got = {x.what(block, 0), x.what(block, 1), x.what(block, 2), x.what(block, 3)};
+        return Arrays.toString(got);
+    }
+
+    private static String registersOf(Counted x) {
+        long[] got = {x.register(0), x.register(1), x.register(2), x.register(3)};
+        return Arrays.toString(got);
+    }
+
+    /** All that can be asked of an object. The runs stand behind the rest, for they change what it answers. */
+    static String stateOf(Counted x) {
+        StringBuilder text = new StringBuilder();
+        for (int what = 0; what <= 8; what++) {
+            text.append(x.count(what)).append(' ');
+        }
+        text.append(registersOf(x)).append(x.ended(0)).append(x.ended(1));
+        int blocks = x.count(0);
+        for (int block = 0; block < blocks; block++) {
+            text.append(" block ").append(whatsOf(x, block));
+            int bytes = x.what(block, 3);
+            for (int i = 0; i < bytes; i++) {
+                text.append(' ').append(x.byteAt(block, i));
+            }
+        }
+        for (int block = 0; block < blocks; block++) {
+            text.append(" run ").append(x.run(block, 7, 3)).append(registersOf(x)).append(x.ended(0)).append(x.ended(1));
+        }
+        return text.toString();
     }
 }
